@@ -6,6 +6,7 @@ public final class AsideTest {
         seen();
         lead();
         amend();
+        amendAsFarAsCanBe();
         amendOfLikeOnes();
         refusedAmend();
         withoutPlayers();
@@ -68,6 +69,8 @@ public final class AsideTest {
         Checks.due("lead(-1)", x.lead(-1), CoatGoals.BAD);
         Checks.due("refused, asked()", x.asked(), -7);
         Checks.due("nothing done", x.count(2), 1);
+        CoatGoals inside = Checks.with("g0 c00c01c05c08 p0071");
+        Checks.told("a ball just inside", inside, inside.lead(2), 2);
     }
 
     private static void amend() {
@@ -90,6 +93,31 @@ public final class AsideTest {
         CoatGoals own = Checks.with("g0 c05c08c05c08 p0091");
         Checks.due("by SIDE 0 it is not SEEN", own.amend(0, 1, 0), 2);
         Checks.due("count(13)", own.count(13), 1);
+        own.stand(0, 11);
+        Checks.due("4 off is too far", own.amend(0, 1, 0), CoatGoals.NONE);
+        // No coat goes off the common, though a ball at its edge would be in then.
+        CoatGoals low = Checks.with("g0 c00c09c10c11 p1001");
+        Checks.due("not below 0", low.amend(1, 1, 0), CoatGoals.NONE);
+        CoatGoals high = Checks.with("g0 c00c01c10c20 p0201");
+        Checks.due("not above 20", high.amend(0, 1, 0), CoatGoals.NONE);
+        Checks.due("five of six, as it is", Checks.with("g0 c00c01c10c20 p0151p0151p0151p0151p0151k0151").amend(0, 5, 0), 0);
+        Checks.due("six, as it is", Checks.with("g0 c00c01c10c20 p0151p0151p0151p0151p0151p0151").amend(0, 6, 0), 0);
+    }
+
+    private static void amendAsFarAsCanBe() {
+        // Balls at 8 to 12 leave just one way to shut an end whose coats are at 9 and 10.
+        CoatGoals x = Checks.with("g1 c09c10c00c01 p1081p1091p1101p1111p1121");
+        Checks.due("both coats of END 0 by 3", x.amend(0, 0, 1), 6);
+        Checks.rowIs("both coats of END 0 by 3", x, 1, -3, -3, 0, 0);
+        CoatGoals other = Checks.with("g1 c00c01c09c10 p0081p0091p0101p0111p0121");
+        Checks.due("both coats of END 1 by 3", other.amend(1, 0, 1), 6);
+        Checks.rowIs("both coats of END 1 by 3", other, 1, 0, 0, -3, -3);
+        CoatGoals up = Checks.with("g1 c09c10c00c01 p1071p1081p1091p1101p1111");
+        Checks.due("and to more", up.amend(0, 0, 1), 6);
+        Checks.rowIs("and to more", up, 1, 3, 3, 0, 0);
+        // A keeper at END 0 matters there alone.
+        CoatGoals kept = Checks.with("g0 c05c09c05c09 p0071p1071k0071");
+        Checks.due("kept at END 0", kept.amend(0, 1, 1), 0);
     }
 
     private static void amendOfLikeOnes() {

@@ -23,6 +23,7 @@ public final class DeedsTest {
         CoatGoals x = Checks.with(Checks.MUDDY);
         Checks.due("term()", x.term(), Checks.bits(4));
         state("term()", x, 1, 1, 0, 5, 12, 3, 15, 1, 0);
+        Checks.due("a ball just inside", Checks.with("g0 c00c01c05c08 p0071").term(), 1);
         CoatGoals both = Checks.with("g1 c05c07c10c12 p0101p0121p0131p1051w1016p1041");
         Checks.due("term()", both.term(), Checks.bits(0, 1, 3, 4));
         Checks.due("term() again", both.term(), Checks.bits(0, 1, 3, 4));
@@ -164,11 +165,33 @@ public final class DeedsTest {
         Checks.due("on(2)", x.on(2), 2);
         Checks.due("on(0)", x.on(0), 0);
         Checks.finds("on(1)", x, 0, x.on(1), 1);
+        keptDeedsAreTheirOwn();
         int[] bad = {-1, 3};
         for (int k : bad) {
             Checks.due("keep(" + k + ")", x.keep(k), CoatGoals.BAD);
             Checks.due("on(" + k + ")", x.on(k), CoatGoals.BAD);
         }
+    }
+
+    /** Later deeds, of others and of other sorts, leave what is kept as it was. */
+    private static void keptDeedsAreTheirOwn() {
+        CoatGoals x = Checks.with(Checks.MUDDY);
+        x.stand(3, 1);
+        x.nudge(3, 2);
+        x.term();
+        x.keep(1);
+        x.undo(0);
+        long first = x.digest();
+        x.nudge(0, 1);
+        x.stand(5, 2);
+        x.rain(1);
+        Checks.due("on(1)", x.on(1), 3);
+        Checks.due("undo(0)", x.undo(0), 3);
+        Checks.due("all undone", x.digest(), first);
+        CoatGoals one = Checks.with("g1 c00c01c19c20 w1209");
+        one.keep(0);
+        Checks.due("kept with one PLAYER", one.on(0), 0);
+        Checks.due("nudged with one PLAYER", one.nudge(2, -1), Checks.bits(0));
     }
 
     private static void withoutPlayers() {

@@ -81,6 +81,8 @@ public final class EvidenceTest {
         Checks.due("no first pair", x.asked(), CoatGoals.NONE);
         Checks.due("sure(0, 0)", x.sure(0, 0), ALL);
         Checks.due("and none", x.asked(), ALL);
+        Checks.row(x, 1, 7, 1);
+        Checks.due("other evidence, sure(0, 1)", x.sure(0, 1), Checks.bits(7));
         x.lead(0);
         Checks.due("next(0, 0)", x.next(0, 0), CoatGoals.NONE);
         Checks.due("NONE tells nothing", x.asked(), 0);
@@ -94,6 +96,15 @@ public final class EvidenceTest {
         Checks.due("4 and 6", x.asked(), 4 * 32 + 6);
         Checks.due("one pair left, next", x.next(1, 0), 0);
         Checks.due("all of it", x.asked(), 1);
+        // In at 2, out at 3: the upper one is at 3, the lower one at 0 or 1, which a ball at 1 tells.
+        Checks.row(x, 0, 2, 1, 3, 0);
+        Checks.due("next at 1", x.next(1, 0), 1);
+        Checks.due("one of two", x.asked(), 1);
+        // With the other school: 18 and 19, or 18 and 20, which a ball at 20 alone tells.
+        CoatGoals other = Checks.with("g1 c05c12c03c15 p0094");
+        Checks.row(other, 0, 17, 0, 18, 1, 19, 1);
+        Checks.due("next at 20", other.next(1, 0), 20);
+        Checks.due("one of two", other.asked(), 1);
     }
 
     private static int guess(CoatGoals x, int call, int end, int r) {

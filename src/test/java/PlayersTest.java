@@ -86,6 +86,8 @@ public final class PlayersTest {
         Checks.due("a boy reaches 8 to 12", boy.mark(0, 2), 5);
         Checks.due("two of the other side's balls", boy.mark(0, 5), 2);
         Checks.due("a keeper that reaches its own place", boy.mark(5, 2), 1);
+        CoatGoals other = Checks.with("g0 c05c12c03c15 b1103p0061p0121p1101");
+        Checks.due("a boy of SIDE 1", other.mark(0, 5), 1);
         CoatGoals heavy = Checks.with("g0 c05c12c03c15 h0101p0101h0101p1101k0101");
         Checks.due("of its own side, that shoot", heavy.mark(0, 3), 3);
     }

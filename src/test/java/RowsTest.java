@@ -87,6 +87,8 @@ public final class RowsTest {
         Checks.due("tear(6)", x.tear(6), CoatGoals.BAD);
         x.row(5, 1);
         Checks.rowIs("row(5, 1)", x, 5, 0);
+        Checks.told("lay(5, 0, 8)", x, x.lay(5, 0, 8), 0);
+        Checks.rowIs("lay(5, 0, 8)", x, 5, 8);
     }
 
     private static void copy() {
@@ -100,6 +102,9 @@ public final class RowsTest {
         Checks.due("copy(0, 1, 0, 0, 4)", x.copy(0, 1, 0, 0, 4), 1);
         Checks.rowIs("to itself, back", x, 0, 1, 2, 3, 4, 4);
         Checks.due("copy(0, 5, 1, 3, 0)", x.copy(0, 5, 1, 3, 0), 1);
+        Checks.row(x, 5, 6, 7);
+        Checks.due("copy(5, 0, 5, 1, 1)", x.copy(5, 0, 5, 1, 1), 1);
+        Checks.rowIs("of the last row", x, 5, 6, 6);
         refusedCopies(x);
     }
 
@@ -134,6 +139,10 @@ public final class RowsTest {
         Checks.told("mean of the greatest", x, x.mean(0), Integer.MAX_VALUE);
         Checks.row(x, 0, Integer.MIN_VALUE, Integer.MIN_VALUE);
         Checks.told("mean of the least", x, x.mean(0), Integer.MIN_VALUE);
+        Checks.row(x, 5, new int[40]);
+        x.lay(5, 39, 80);
+        Checks.told("mean of forty", x, x.mean(5), 2);
+        x.mean(0);
         x.row(1, 0);
         Checks.finds("mean of none", x, 0, x.mean(1), 4);
         Checks.finds("mean(2)", x, 0, x.mean(2), 1);

@@ -89,6 +89,28 @@ public final class StrengthTest {
         CoatGoals last = Checks.with("g0 c05c08c10c11 p1081");
         Checks.told("out", last, last.duel(0), 0);
         Checks.told("SIDE 0 draws the coat, SIDE 1 sets it back", last, last.duel(1), 0);
+        // SIDE 0 can guard but one of SIDE 1's two coats: the other one lets two balls in.
+        CoatGoals guarded = Checks.with("g0 c05c08c15c16 p1051p1051p1081p1081");
+        Checks.told("all out", guarded, guarded.duel(0), 0);
+        Checks.told("two let in", guarded, guarded.duel(1), -2);
+        Checks.told("two let in at last", guarded, guarded.duel(2), -2);
+        // Balls well inside of both ends: nobody can change a thing.
+        CoatGoals inside = Checks.with("g0 c03c13c03c13 p0081p1081p1081p1081");
+        Checks.told("one to three", inside, inside.duel(1), -2);
+        Checks.told("one to three at last", inside, inside.duel(2), -2);
+        CoatGoals six = Checks.with("g0 c03c13c03c13 p0081p0081p0081p0081p0081p0081");
+        Checks.told("six", six, six.duel(2), 6);
+        // A keeper at END 1 reaches the one ball that a nudge would let in; at END 0 there is none.
+        CoatGoals kept = Checks.with("g0 c05c08c05c08 p0081p1051p1081k1082");
+        Checks.told("kept", kept, kept.duel(1), -1);
+        // The last word is SIDE 1's: whatever SIDE 0 nudges, it nudges back.
+        CoatGoals back = Checks.with("g0 c09c13c09c10 p0101");
+        Checks.told("opened, shut, opened, shut", back, back.duel(2), 0);
+        CoatGoals narrow = Checks.with("g0 c06c08c08c10 p1071");
+        Checks.told("shut, opened, shut, opened", narrow, narrow.duel(2), -1);
+        // To nudge none is best: each nudge of SIDE 0 gives SIDE 1 room for a better one.
+        CoatGoals still = Checks.with("g1 c00c01c19c20 p0191p0201p0201p1021p1031");
+        Checks.told("none by SIDE 0, COAT 1 by SIDE 1", still, still.duel(1), 2);
         // At the edge COAT 3 can't go on: the ball at 20 stays out with SCHOOL 0.
         CoatGoals edge = Checks.with("g0 c00c01c10c20 p0201");
         Checks.told("edge", edge, edge.duel(2), 0);

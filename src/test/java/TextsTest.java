@@ -116,6 +116,17 @@ public final class TextsTest {
         Checks.due("a byte below 0 is no figure", x.fault(0), 18);
         x.put(0, 18, 49 + 256);
         Checks.due("cut to a byte it is one", x.fault(0), CoatGoals.NONE);
+        fullTexts();
+    }
+
+    /** Texts of 60 bytes, whose end comes too early at each kind of item. */
+    private static void fullTexts() {
+        String blanks = " ".repeat(60);
+        String[] endings = {"", "g", "g0", "g0c", "g0c1", HEAD, HEAD + "p", HEAD + "p0", HEAD + "p01", HEAD + "p010"};
+        for (String ending : endings) {
+            fault(blanks.substring(ending.length()) + ending, 60);
+        }
+        fault(blanks.substring(HEAD.length() + 5) + HEAD + "p0101", CoatGoals.NONE);
     }
 
     private static void refusedFaults() {
@@ -131,6 +142,7 @@ public final class TextsTest {
         x.term();
         x.rain(1);
         x.keep(2);
+        x.keep(0);
         long digest = x.digest();
         Checks.due("republic(-1)", x.republic(-1), CoatGoals.BAD);
         Checks.due("republic(4)", x.republic(4), CoatGoals.BAD);
@@ -149,6 +161,7 @@ public final class TextsTest {
             Checks.due("anew, count(" + what + ")", x.count(what), counts[what]);
         }
         Checks.finds("kept ones go, on(2)", x, 1, x.on(2), 1);
+        Checks.finds("kept ones go, on(0)", x, 2, x.on(0), 1);
         x.put(0, 1, '0');
         Checks.due("a text put to later changes nothing", x.count(1), 1);
     }
