@@ -202,7 +202,9 @@ public final class CoatGoals {
         if (now.deeds >= DEEDS_MOST) {
             return FULL;
         }
-        return now.playTerm();
+        int who = now.scorers(0);
+        now.endTerm(who);
+        return who;
     }
 
     public int nudge(int k, int n) {
@@ -700,7 +702,7 @@ public final class CoatGoals {
     private void doByLot(int lot) {
         int what = lot / 8 % 8;
         if (what <= 2) {
-            now.playTerm();
+            now.endTerm(now.scorers(0));
         } else if (what <= 4) {
             int k = lot / 64 % COATS;
             int n = what == 3 ? -1 : 1;
@@ -759,10 +761,10 @@ public final class CoatGoals {
         }
 
         static int reach(int kind, int strength) {
-            if (!isOf(kind, KEEPER)) {
-                return NONE;
+            if (kind == BOY) {
+                return strength / 3 + 1;
             }
-            return kind == BOY ? strength / 3 + 1 : strength / 3;
+            return kind == KEEPER ? strength / 3 : NONE;
         }
     }
 
@@ -979,7 +981,7 @@ public final class CoatGoals {
         }
 
         int landing(int i) {
-            return landingFrom(i, place[i], wet);
+            return Kinds.landing(kind[i], place[i], strength[i], wet);
         }
 
         /** Where a ball lands, so much further, as a bit; 0, if there is no ball. */
@@ -1125,12 +1127,10 @@ public final class CoatGoals {
             return many;
         }
 
-        int playTerm() {
-            int who = scorers(0);
+        void endTerm(int who) {
             note(TERM, 0, who);
             addGoals(who, 1);
             terms++;
-            return who;
         }
 
         void moveCoat(int k, int n) {

@@ -42,6 +42,7 @@ public final class LanguageTest {
         String[] lines = code.split("\n");
         Pattern head = Pattern.compile("^(\\s+)(?:public |private |static |final )*[\\w\\[\\]]+ (\\w+)\\(([^)]*)\\) \\{$");
         int seen = 0;
+        List<String> face = all("\\bpublic \\w+ (\\w+)\\(", code);
         for (int i = 0; i < lines.length; i++) {
             Matcher m = head.matcher(lines[i]);
             if (!m.matches() || lines[i].contains("else")) {
@@ -52,6 +53,8 @@ public final class LanguageTest {
                 end++;
             }
             seen++;
+            boolean isClash = !lines[i].contains("public ") && face.contains(m.group(2));
+            Checks.due("a name of the face once more: " + m.group(2), isClash ? 1 : 0, 0);
             Checks.due("length of " + m.group(2) + ", " + (end - i + 1), end - i + 1 <= 60 ? 1 : 0, 1);
             int parameters = m.group(3).isBlank() ? 0 : m.group(3).split(",").length;
             Checks.due("parameters of " + m.group(2), parameters <= 7 ? 1 : 0, 1);
