@@ -706,9 +706,8 @@ public final class CoatGoals {
         } else if (what <= 4) {
             int k = lot / 64 % COATS;
             int n = what == 3 ? -1 : 1;
-            if (mayMove(now.coat, k, n)) {
-                now.moveCoat(k, n);
-            }
+            // Each number is a deed in any case: a coat that may not be nudged is moved by none.
+            now.moveCoat(k, mayMove(now.coat, k, n) ? n : 0);
         } else if (what == 5) {
             now.turnWeather(1 - now.wet);
         } else if (now.players > 0) {

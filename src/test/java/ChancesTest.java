@@ -6,6 +6,8 @@ public final class ChancesTest {
         refused();
         lots();
         lotsOfOne();
+        lotsThatChangeNothing();
+        lotsAreDeeds();
         refusedLots();
         Checks.finish();
     }
@@ -91,12 +93,6 @@ public final class ChancesTest {
             Checks.due("to more", x.count(5 + k), coats[k] + 1);
         }
         CoatGoals narrow = Checks.with("g0 c00c01c19c20 p0101");
-        Checks.due("to less than 0", narrow.lots(1, seedFor(3, 0, 4)), 0);
-        Checks.due("no DEED", narrow.count(3), 0);
-        narrow.lots(1, seedFor(4, 0, 4));
-        narrow.lots(1, seedFor(4, 3, 4));
-        narrow.lots(1, seedFor(3, 3, 4));
-        Checks.due("no DEED still", narrow.count(3), 0);
         narrow.lots(1, seedFor(5, 0, 1));
         Checks.due("it RAINS", narrow.count(4), 1);
         narrow.lots(1, seedFor(5, 0, 1));
@@ -108,6 +104,54 @@ public final class ChancesTest {
         Checks.told("stands at 20", narrow, narrow.player(0, 2), 20);
         Checks.due("undo(3)", narrow.undo(3), 1);
         Checks.told("stands at 10", narrow, narrow.player(0, 2), 10);
+    }
+
+    /** A number that changes nothing is a DEED all the same, and undone it leaves all as it was. */
+    private static void lotsThatChangeNothing() {
+        int[] seeds = {
+            seedFor(3, 0, 4), seedFor(4, 0, 4), seedFor(3, 1, 4), seedFor(4, 2, 4), seedFor(3, 3, 4),
+            seedFor(4, 3, 4), seedFor(6, 10, 21), seedFor(7, 10, 21)};
+        for (int seed : seeds) {
+            String call = "lots(1, " + seed + ")";
+            CoatGoals x = Checks.with("g0 c00c01c19c20 p0101w0053");
+            x.stand(1, 10);
+            x.term();
+            long ahead = x.digest();
+            Checks.due(call, x.lots(1, seed), 0);
+            Checks.due(call + ", count(3)", x.count(3), 3);
+            for (int k = 0; k <= 3; k++) {
+                Checks.due(call + ", COAT " + k, x.count(5 + k), new int[] {0, 1, 19, 20}[k]);
+            }
+            Checks.told(call + ", where 0 stands", x, x.player(0, 2), 10);
+            Checks.told(call + ", where 1 stands", x, x.player(1, 2), 10);
+            Checks.due(call + ", undo(2)", x.undo(2), 1);
+            Checks.due(call + ", all as it was", x.digest(), ahead);
+            x.lots(1, seed);
+            Checks.due(call + ", keep(0)", x.keep(0), 3);
+            x.undo(0);
+            Checks.due(call + ", on(0)", x.on(0), 3);
+            Checks.due(call + ", undo(1) behind on(0)", x.undo(1), 2);
+        }
+    }
+
+    /** Behind lots(n, seed) there are n DEEDS more, whatever the numbers, and FULL fits that. */
+    private static void lotsAreDeeds() {
+        for (int seed = 1; seed <= 60; seed++) {
+            CoatGoals x = Checks.with("g0c00c01c19c20p0051");
+            long ahead = x.digest();
+            x.lots(20, seed);
+            Checks.due("20 by seed " + seed, x.count(3), 20);
+            x.lots(7, seed);
+            Checks.due("7 more by seed " + seed, x.count(3), 27);
+            Checks.due("14 more by seed " + seed, x.lots(14, seed), CoatGoals.FULL);
+            x.lots(13, seed);
+            Checks.due("13 more by seed " + seed, x.count(3), 40);
+            Checks.due("1 more by seed " + seed, x.lots(1, seed), CoatGoals.FULL);
+            Checks.due("a TERM more by seed " + seed, x.term(), CoatGoals.FULL);
+            Checks.due("undo(20) by seed " + seed, x.undo(20), 20);
+            Checks.due("undo(0) by seed " + seed, x.undo(0), 20);
+            Checks.due("all as it was, seed " + seed, x.digest(), ahead);
+        }
     }
 
     private static void lots() {

@@ -662,7 +662,7 @@ final class Model {
                 case 0: case 1: case 2: termDone(); break;
                 case 3: case 4: {
                     int[] c = moved(now().coats, (x >> 6) & 3, ((x >> 3) & 7) == 3 ? -1 : 1);
-                    if (legal(c)) history.add(withCoats(now(), c));
+                    history.add(legal(c) ? withCoats(now(), c) : withCoats(now(), now().coats));
                     break;
                 }
                 case 5: history.add(withRain(now(), 1 - now().rain)); break;
