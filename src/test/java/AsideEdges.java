@@ -198,7 +198,7 @@ final class AsideEdges {
 
     /** One ball of each side in turn, at a place, and coats at 9 and 11 where it would be. */
     private static void opened(Sentence s, int school, int place, int steps) {
-        String at = (place < 10 ? "0" : "") + place;
+        String at = Checks.two(place);
         int low = place < 10 ? -steps : 0;
         int high = place < 10 ? 0 : steps;
         amended(s, steps, "g" + school + "c00c01c09c11p0" + at + "1", 0, 1, 0, 0, low, high);
@@ -275,6 +275,9 @@ final class AsideEdges {
             // All six at once are let in by one step, how many of them are wanted.
             amended(s, v == 0 ? 0 : 1, "g1c00c01c09c11p0121p0121p0121p0121p0121p0121", 0, v, 0, 0, 0, v == 0 ? 0 : 1);
         }
+        // A keeper of one END does not matter at the other one.
+        amended(s, 0, "g1c09c11c09c11p0101p1101k0101", 0, 1, 0, 0, 0, 0);
+        amended(s, 0, "g1c09c11c09c11p0101p1101k1101", 1, 1, 0, 0, 0, 0);
         // GOALS of earlier TERMS do not count.
         CoatGoals x = Checks.with("g0c00c20c00c20p0101");
         x.term();
@@ -318,6 +321,8 @@ final class AsideEdges {
         s.refuses(Ready.republic("g1c00c01c09c11k0101"), NONE, "amend", 0, 1, 0);
         s.refuses(Ready.republic("g1c00c01c00c20p0101k1101"), NONE, "amend", 0, 1, 0);
         s.refuses(Ready.republic("g1c00c20c00c20p1101p1101"), NONE, "amend", 0, 0, 0);
+        s.refuses(Ready.republic("g1c00c20c09c12w1019w1019"), NONE, "amend", 0, 0, 0);
+        s.refuses(Ready.republic("g1c09c12c00c20w0019w0019"), NONE, "amend", 1, 0, 0);
         s.refuses(Ready.republic("g1c00c01c00c20p0101p0101p0101p0101p0101"), NONE, "amend", 0, 6, 0);
     }
 

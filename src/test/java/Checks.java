@@ -70,6 +70,11 @@ final class Checks {
         due(call + ", behind its end", x.at(r, values.length), CoatGoals.FINDING);
     }
 
+    /** A place, as a text has it. */
+    static String two(int v) {
+        return (v < 10 ? "0" : "") + v;
+    }
+
     static int bits(int... places) {
         int bits = 0;
         for (int p : places) {

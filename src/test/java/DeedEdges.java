@@ -1,3 +1,4 @@
+import java.util.List;
 import java.util.function.Supplier;
 
 /** Promises 14 to 20, sentence by sentence, with what "Terms" says of deeds. */
@@ -66,7 +67,7 @@ final class DeedEdges {
             for (int n : new int[] {-3, -2, -1, 1, 2, 3}) {
                 for (int place = 0; place <= 20; place++) {
                     for (int side = 0; side <= 1; side++) {
-                        CoatGoals x = Checks.with("g0c08c12c08c12p" + side + (place < 10 ? "0" : "") + place + "1");
+                        CoatGoals x = Checks.with("g0c08c12c08c12p" + side + Checks.two(place) + "1");
                         boolean sees = side == k / 2 && Math.abs(place - at) <= 3;
                         s.answers(x, sees ? 1 : 0, "nudge", k, n);
                         s.answers(x, at + n, "count", 5 + k);
@@ -162,8 +163,8 @@ final class DeedEdges {
     }
 
     /** With players, without any, and full of deeds. */
-    private static java.util.List<Supplier<CoatGoals>> refusing() {
-        return java.util.List.of(Ready.republic(MUDDY), Ready.NEW, Ready.deeds(MUDDY, 40));
+    private static List<Supplier<CoatGoals>> refusing() {
+        return List.of(Ready.republic(MUDDY), Ready.NEW, Ready.deeds(MUDDY, 40));
     }
 
     private static void nudgeState() {
@@ -184,7 +185,7 @@ final class DeedEdges {
     }
 
     private static String coats(int end, int low, int high) {
-        String pair = "c" + (low < 10 ? "0" : "") + low + "c" + (high < 10 ? "0" : "") + high;
+        String pair = "c" + Checks.two(low) + "c" + Checks.two(high);
         return end == 0 ? "g0" + pair + "c09c10p0101p1101" : "g0c09c10" + pair + "p0101p1101";
     }
 
@@ -393,6 +394,14 @@ final class DeedEdges {
             s.answers(x, deeds, "on", 1);
             Twins.alike(s, "on(1)", x, twin, 0);
         }
+        // GOALS of both SIDES.
+        CoatGoals both = Checks.with("g0c00c20c00c20p0101p1101p1101");
+        both.term();
+        both.keep(0);
+        both.term();
+        s.answers(both, 1, "on", 0);
+        s.answers(both, 1, "count", 9);
+        s.answers(both, 2, "count", 10);
         // As often as wanted, and from each place what was kept there.
         CoatGoals x = Checks.with(MUDDY);
         for (int k = 0; k <= 2; k++) {

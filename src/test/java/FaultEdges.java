@@ -70,16 +70,12 @@ final class FaultEdges {
         }
     }
 
-    private static String two(int v) {
-        return (v < 10 ? "0" : "") + v;
-    }
-
     private static void coats() {
         Sentence s = Sentence.ofTerms(", then COATS 0, 1, 2, 3: c (99) and the PLACE (two figures, 00 .. 20;"
             + " that of COAT 1 above that of COAT 0, that of COAT 3 above that of COAT 2).");
         for (int low = 0; low <= 99; low++) {
             for (int high = 0; high <= 99; high++) {
-                String pair = "c" + two(low) + "c" + two(high);
+                String pair = "c" + Checks.two(low) + "c" + Checks.two(high);
                 int off = low > 20 ? 1 : high > 20 || high <= low ? 4 : -1;
                 fault(s, off < 0 ? NONE : 2 + off, "g0" + pair + "c00c20p0001");
                 fault(s, off < 0 ? NONE : 8 + off, "g0" + "c00c20" + pair + "p0001");
@@ -109,7 +105,7 @@ final class FaultEdges {
             }
         }
         for (int place = 0; place <= 99; place++) {
-            fault(s, place <= 20 ? NONE : 16, HEAD + "p0" + two(place) + "1");
+            fault(s, place <= 20 ? NONE : 16, HEAD + "p0" + Checks.two(place) + "1");
         }
         for (int figure = 0; figure <= 9; figure++) {
             fault(s, figure <= 1 ? NONE : 15, HEAD + "p" + figure + "001");

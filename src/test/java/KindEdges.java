@@ -15,10 +15,6 @@ final class KindEdges {
         isIn();
     }
 
-    private static String two(int v) {
-        return (v < 10 ? "0" : "") + v;
-    }
-
     private static void kinds() {
         Sentence s = Sentence.ofTerms("KINDS of PLAYERS and letters: 0 PLAYER (p, 112), 1 WINGER (w, 119; a PLAYER),"
             + " 2 KEEPER (k, 107; a PLAYER), 3 HEAVY (h, 104; a PLAYER), 4 CAPTAIN (t, 116; a WINGER), 5 BOY (b, 98; a KEEPER).");
@@ -82,7 +78,7 @@ final class KindEdges {
             {3, 3, 9, 1, 1}, {3, 0, 9, 0, 0}, {4, 16, 9, 0, 20}, {4, 15, 9, 0, 19}, {4, 17, 9, 0, 20}, {4, 5, 1, 0, 5},
             {4, 5, 1, 1, 6}, {4, 11, 9, 1, 20}, {0, 20, 9, 1, 20}, {0, 0, 9, 1, 0}};
         for (int[] h : byHand) {
-            CoatGoals x = Checks.with("g0c05c12c03c15" + LETTERS.charAt(h[0]) + "0" + two(h[1]) + h[2]);
+            CoatGoals x = Checks.with("g0c05c12c03c15" + LETTERS.charAt(h[0]) + "0" + Checks.two(h[1]) + h[2]);
             s.answers(x, h[4], "lands", 0, h[1], h[3]);
         }
     }
@@ -96,7 +92,7 @@ final class KindEdges {
                 for (int boy = 0; boy <= 1; boy++) {
                     int side = place % 2;
                     // With SCHOOL 1 and coats at 0 and 20 a ball is in wherever none reaches.
-                    CoatGoals x = Checks.with("g1c00c20c00c20" + (boy == 1 ? "b" : "k") + side + two(place) + strength);
+                    CoatGoals x = Checks.with("g1c00c20c00c20" + (boy == 1 ? "b" : "k") + side + Checks.two(place) + strength);
                     s.tells(x, far[strength] + boy, "player", 0, 6);
                     s.tells(x, NONE, "player", 0, 4);
                     s.tells(x, 0, "player", 0, 5);
@@ -131,8 +127,8 @@ final class KindEdges {
         for (int low = 0; low < 20; low++) {
             for (int high = low + 1; high <= 20; high++) {
                 for (int school = 0; school <= 1; school++) {
-                    CoatGoals x = Checks.with("g" + school + "c" + two(low) + "c" + two(high) + "c09c11p0001");
-                    CoatGoals y = Checks.with("g" + school + "c09c11c" + two(low) + "c" + two(high) + "p1001");
+                    CoatGoals x = Checks.with("g" + school + "c" + Checks.two(low) + "c" + Checks.two(high) + "c09c11p0001");
+                    CoatGoals y = Checks.with("g" + school + "c09c11c" + Checks.two(low) + "c" + Checks.two(high) + "p1001");
                     for (int p = 0; p <= 20; p++) {
                         boolean isIn = p > low && p < high || school == 1 && (p == low || p == high);
                         s.answers(x, isIn ? 1 : 0, "in", 0, p);

@@ -223,6 +223,10 @@ final class RowEdges {
         CoatGoals x = forty();
         s.answers(x, 1, "copy", 0, 0, 2, 0, 0);
         Twins.alike(s, "none come", x, forty(), 0);
+        CoatGoals end = new CoatGoals();
+        Checks.row(end, 5, 7, 8);
+        s.answers(end, 1, "copy", 5, 0, 5, 1, 1);
+        s.tells(end, 7, "at", 5, 1);
     }
 
     private static void copyRefused() {

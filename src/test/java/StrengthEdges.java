@@ -136,6 +136,8 @@ final class StrengthEdges {
         duel(s, "g1c09c10c00c01p1091p1101", -2, -2, -2);
         duel(s, "g1c00c01c00c01p0001p0011", 2, 2, 2);
         duel(s, "g1c00c01c19c20p0191p0201", 2, 2, 2);
+        // Or none: each nudge that SIDE 0 may do would cost it two, none costs it one.
+        duel(s, "g1c09c10c09c10p0091p0091p0101p0101p1081p1111", 4, 3, 3);
     }
 
     private static void duelByTurns() {
@@ -144,6 +146,12 @@ final class StrengthEdges {
         duel(s, "g1c10c12c00c01p1081p1141", 0, 0, 0);
         // SIDE 0 guards against one coat, SIDE 1 moves the other one.
         duel(s, "g1c10c12c00c01p1091p1131", 0, -1, -1);
+        // SIDE 0 begins: with the coat drawn one further SIDE 1 can't shut the ball out, nor let its own in.
+        duel(s, "g0c00c01c05c12p0061", 1, 1, 1);
+        duel(s, "g0c05c12c00c01p1051", 0, 0, 0);
+        // Keepers reach where they do, at their own END.
+        duel(s, "g1c09c11c09c11p0101p1101k0101", 1, 1, 1);
+        duel(s, "g1c09c11c09c11p0101p1101k1101", -1, -1, -1);
         // SIDE 1 has the last word: what SIDE 0 opens it shuts.
         duel(s, "g1c00c01c10c12p0091p0131", 0, 0, 0);
         duel(s, "g1c00c01c10c12p0101p0121", 2, 1, 1);

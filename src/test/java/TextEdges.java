@@ -204,6 +204,12 @@ final class TextEdges {
         s.answers(again, 0, "count", 3);
         s.answers(again, 15, "count", 8);
         s.answers(again, 0, "count", 15);
+        // No GOALS of either SIDE.
+        CoatGoals both = Checks.with("g0c00c20c00c20p0101p1101p1101");
+        both.term();
+        s.answers(both, 3, "republic", 3);
+        s.answers(both, 0, "count", 9);
+        s.answers(both, 0, "count", 10);
         // Later changes of the TEXT leave it.
         again.text(3, 0);
         s.answers(again, 6, "count", 0);
