@@ -4,10 +4,13 @@ import java.util.Arrays;
 import java.util.List;
 import java.util.Random;
 
-/** Runs of calls by chance (with seeds of their own, so always the same), the program's answers beside the model's. */
+/**
+ * Runs of calls by chance (with seeds of their own, so always the same), the program's answers beside the model's.
+ * Each run is as long as the document allows, looks at what is told counted, too.
+ */
 public final class ModelTest {
-    private static final int RUNS = 400;
-    private static final int CALLS = 400;
+    private static final int RUNS = 800;
+    private static final int CALLS = 512;
     private static final String LETTERS = "pwkhtb";
     /** Numbers that are none, in most places. */
     private static final int[] ODD = {-1, 21, 41, 61, Integer.MIN_VALUE, Integer.MAX_VALUE, 1000};
@@ -34,7 +37,7 @@ public final class ModelTest {
             differing += test.differs ? 1 : 0;
         }
         System.out.println(answers + " answers beside the model's, " + differing + " runs differ");
-        if (differing != 0) {
+        if (differing != 0 || answers != RUNS * CALLS) {
             System.exit(1);
         }
     }
@@ -44,10 +47,12 @@ public final class ModelTest {
             .filter(m -> java.lang.reflect.Modifier.isPublic(m.getModifiers()))
             .sorted((a, b) -> a.getName().compareTo(b.getName()))
             .toArray(Method[]::new);
+        // Every other run is watched: all that can be seen is looked at behind each call, so fewer others fit in.
+        boolean isWatched = run % 2 == 0;
         if (random.nextInt(10) > 0) {
             writeRepublic(random.nextInt(4));
         }
-        while (calls.size() < CALLS && !differs) {
+        while (calls.size() < CALLS - 1 && !differs) {
             int chance = random.nextInt(100);
             if (chance < 3) {
                 writeRepublic(random.nextInt(4));
@@ -59,11 +64,16 @@ public final class ModelTest {
                     call(m.getName(), arguments(m));
                 }
             }
-            same("asked()", program.asked(), model.asked());
-            same("upper()", program.upper(), model.upper());
-            same("lower()", program.lower(), model.lower());
-            same("finding()", program.finding(), model.finding());
-            same("digest()", program.digest(), model.digest());
+            if (isWatched) {
+                look();
+            }
+        }
+        made("digest");
+    }
+
+    private void look() throws Exception {
+        for (String told : new String[] {"asked", "upper", "lower", "finding", "digest"}) {
+            call(told);
         }
     }
 
@@ -88,24 +98,31 @@ public final class ModelTest {
             case "put": return a == 0 ? random.nextInt(4) : a == 1 ? random.nextInt(60) : random.nextInt(400) - 140;
             case "nudge": return a == 0 ? random.nextInt(4) : random.nextInt(7) - 3;
             case "stand": return a == 0 ? random.nextInt(6) : random.nextInt(21);
-            case "undo": return random.nextInt(12);
+            case "undo": return random.nextInt(3) > 0 ? 20 + random.nextInt(22) : random.nextInt(20);
             case "lands": return a == 0 ? random.nextInt(6) : a == 1 ? random.nextInt(21) : random.nextInt(2);
             case "in": return a == 0 ? random.nextInt(2) : random.nextInt(21);
             case "lead": return random.nextInt(41);
-            case "amend": return a == 0 ? random.nextInt(2) : a == 1 ? random.nextInt(4) : random.nextInt(6);
+            case "amend": return a == 0 ? random.nextInt(2) : a == 1 ? random.nextInt(random.nextInt(4) > 0 ? 3 : 7) : random.nextInt(6);
             case "coats": case "sure": case "next": return a == 0 ? random.nextInt(2) : random.nextInt(6);
             case "stood": case "kinds": return random.nextInt(6);
-            case "sets": case "surely": return random.nextInt(40);
+            case "sets": case "surely": return random.nextInt(55);
             case "odds": return a == 0 ? random.nextInt(2) : random.nextInt(13);
             case "mid": return random.nextInt(13);
-            case "lots": return a == 0 ? 1 + random.nextInt(6) : 1 + random.nextInt(2147483646);
+            case "lots": return a == 0 ? 1 + random.nextInt(random.nextInt(3) == 0 ? 20 : 6) : 1 + random.nextInt(2147483646);
             case "count": return random.nextInt(16);
             case "mark": case "player": return random.nextInt(6);
             default: return random.nextInt(4);
         }
     }
 
+    /** The run's last call is left for its end. */
     private void call(String name, Object... args) throws Exception {
+        if (calls.size() < CALLS - 1 && !differs) {
+            made(name, args);
+        }
+    }
+
+    private void made(String name, Object... args) throws Exception {
         Class<?>[] types = new Class<?>[args.length];
         Arrays.fill(types, int.class);
         Method ofModel = Model.class.getDeclaredMethod(name, types);
