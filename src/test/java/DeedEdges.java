@@ -30,6 +30,7 @@ final class DeedEdges {
         keepMany();
         keepRefused();
         onMany();
+        onDeedByDeed();
         onRefused();
     }
 
@@ -412,6 +413,56 @@ final class DeedEdges {
             s.answers(x, k, "on", k);
             s.answers(x, k, "count", 2);
             s.answers(x, 3, "count", 15);
+        }
+    }
+
+    /** One of several deeds, unlike in sort, in whom or what they are of, and in how that was. */
+    private static void oneOf(CoatGoals x, int which) {
+        switch (which) {
+            case 0:
+                x.term();
+                break;
+            case 1:
+                x.rain(1 - x.count(4));
+                break;
+            case 2:
+            case 3:
+                x.nudge(which, which == 2 ? -1 : 1);
+                break;
+            default:
+                x.stand(which, 2);
+                break;
+        }
+    }
+
+    /** Another deed was done in a kept one's stead: with the kept republic the kept deed is there again, to be undone. */
+    private static void onDeedByDeed() {
+        Sentence s = Sentence.of(20, "The REPUBLIC is as it was kept: how many DEEDS.");
+        for (int n : new int[] {0, 1, 20, 38, 39}) {
+            for (int of = 0; of <= 5; of++) {
+                for (int other = 0; other <= 5; other++) {
+                    int k = (n + of + other) % 3;
+                    CoatGoals x = Ready.deeds(MUDDY, n).get();
+                    long ahead = x.digest();
+                    oneOf(x, of);
+                    x.keep(k);
+                    x.undo(n);
+                    oneOf(x, other);
+                    String call = "deed " + n + " is " + of + ", then " + other + ", then on(" + k + ")";
+                    s.due(call, x.on(k), n + 1);
+                    s.due(call + ", undo(" + n + ")", x.undo(n), 1);
+                    CoatGoals twin = Ready.deeds(MUDDY, n).get();
+                    s.due("made alike", twin.digest(), ahead);
+                    oneOf(twin, of);
+                    twin.keep(k);
+                    twin.undo(n);
+                    s.due(call + ", undo(" + n + "), digest()", x.digest(), twin.digest());
+                    for (int i = 0; i <= 5; i++) {
+                        s.due(call + ", then where " + i + " stands", x.player(i, 2) + 100 * x.asked(),
+                            twin.player(i, 2) + 100 * twin.asked());
+                    }
+                }
+            }
         }
     }
 

@@ -17,6 +17,7 @@ final class FaultEdges {
         seventhPlayer();
         otherThanCoats();
         twoFigures();
+        twoSigns();
         endTooEarly();
     }
 
@@ -177,6 +178,42 @@ final class FaultEdges {
         fault(s, 16, "g0c00c01c00c01p0211");
         fault(s, 16, "g0c00c01c00c01p0300");
         fault(s, 21, "g0c00c01c00c01p0001w1991");
+    }
+
+    private static boolean isFigure(char sign) {
+        return sign >= '0' && sign <= '9';
+    }
+
+    /** Any two signs where two figures are due: the first that is no figure fails, two figures at the first of both. */
+    private static void twoSigns() {
+        Sentence s = Sentence.ofTerms("A FAULT is the first place at which it can't go on so"
+            + " (a letter, a figure that is none such,");
+        String signs = "0123456789/: xgcp-\0" + (char) 127 + (char) 200;
+        int[] places = {3, 6, 9, 12, 16};
+        for (int at : places) {
+            String ahead = ONE.substring(0, at);
+            String behind = ONE.substring(at + 2);
+            for (char first : signs.toCharArray()) {
+                fault(s, isFigure(first) ? at + 1 : at, ahead + first);
+                for (char second : signs.toCharArray()) {
+                    fault(s, dueOf(at, first, second), ahead + first + second + behind);
+                }
+            }
+        }
+    }
+
+    /** Of ONE, whose coats are at 5 and 15 at both ends. */
+    private static int dueOf(int at, char first, char second) {
+        if (!isFigure(first) || !isFigure(second)) {
+            return isFigure(first) ? at + 1 : at;
+        }
+        int place = 10 * (first - '0') + second - '0';
+        boolean isUpper = at == 6 || at == 12;
+        if (place > 20 || isUpper && place <= 5) {
+            return at;
+        }
+        boolean isLower = at == 3 || at == 9;
+        return isLower && place >= 15 ? at + 3 : NONE;
     }
 
     private static void endTooEarly() {
